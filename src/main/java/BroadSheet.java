@@ -577,9 +577,11 @@ public final class BroadSheet {
             int row = spot(place + 1, b, 0);
             int high = highestAfter(a, b);
             for (int c = lowestAfter(a, b); c <= high; c++) {
-                int own = Math.abs(fixed + side * c);
+                // No method is called here: best() goes through these lines some 200,000 times.
+                int error = fixed + side * c;
+                int own = error < 0 ? -error : error;
                 int later = rest[row + c];
-                int all = sum ? own + later : Math.max(own, later);
+                int all = sum ? own + later : own > later ? own : later;
                 if (all < least) {
                     least = all;
                 }
