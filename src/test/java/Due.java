@@ -3,11 +3,17 @@ final class Due {
     private static final int MOST_PRINTED = 40;
 
     private final String test;
+    private String sentence = "";
     private int looked;
     private int wrong;
 
     Due(String test) {
         this.test = test;
+    }
+
+    /** The sentence of the document that the answers from here on are due by; it is printed with each wrong one. */
+    void by(String words) {
+        sentence = " (" + words + ")";
     }
 
     void is(String call, long got, long want) {
@@ -27,7 +33,7 @@ final class Due {
     private void wrong(String text) {
         wrong++;
         if (wrong <= MOST_PRINTED) {
-            System.out.println(test + ": " + text);
+            System.out.println(test + ": " + text + sentence);
         }
     }
 

@@ -17,14 +17,6 @@ final class GradesTest {
         DUE.end();
     }
 
-    private static BroadSheet withGrades(int n) {
-        BroadSheet x = new BroadSheet();
-        for (int g = 0; g < n; g++) {
-            x.grade();
-        }
-        return x;
-    }
-
     private static void tourIs(String when, BroadSheet x, int costs, int... want) {
         for (int i = 0; i < want.length; i++) {
             DUE.is(when + ", tourAt(" + want[0] + ", " + i + ")", x.tourAt(want[0], i), want[i]);
@@ -43,7 +35,7 @@ final class GradesTest {
     }
 
     private static void costTellsWhatItWas() {
-        BroadSheet x = withGrades(9);
+        BroadSheet x = Sheets.withGrades(9);
         DUE.is("cost(0, 8, 1000)", x.cost(0, 8, 1000), 100);
         DUE.is("cost(0, 8, 0)", x.cost(0, 8, 0), 1000);
         DUE.is("cost(0, 8, 3)", x.cost(0, 8, 3), 0);
@@ -51,7 +43,7 @@ final class GradesTest {
     }
 
     private static void costRefuses() {
-        BroadSheet x = withGrades(3);
+        BroadSheet x = Sheets.withGrades(3);
         DUE.is("cost(3, 0, 1)", x.cost(3, 0, 1), -1);
         DUE.is("cost(0, 3, 1)", x.cost(0, 3, 1), -1);
         DUE.is("cost(-1, 0, 1)", x.cost(-1, 0, 1), -1);
@@ -65,7 +57,7 @@ final class GradesTest {
     }
 
     private static void tourOfOne() {
-        BroadSheet x = withGrades(1);
+        BroadSheet x = Sheets.withGrades(1);
         tourIs("one grade", x, 0, 0);
         DUE.is("tourAt(0, 1)", x.tourAt(0, 1), -6);
         DUE.is("tourAt(0, -1)", x.tourAt(0, -1), -6);
@@ -87,7 +79,7 @@ final class GradesTest {
     }
 
     private static void tourIsTheCheapest() {
-        BroadSheet x = withGrades(4);
+        BroadSheet x = Sheets.withGrades(4);
         x.cost(0, 1, 1);
         x.cost(1, 2, 900);
         x.cost(1, 3, 900);
@@ -99,12 +91,12 @@ final class GradesTest {
     }
 
     private static void tourPrefersLesserGrades() {
-        BroadSheet x = withGrades(9);
+        BroadSheet x = Sheets.withGrades(9);
         tourIs("all alike", x, 800, 4, 0, 1, 2, 3, 5, 6, 7, 8);
         tourIs("all alike", x, 800, 0, 1, 2, 3, 4, 5, 6, 7, 8);
         x.cost(8, 7, 99);
         tourIs("one step cheaper", x, 799, 0, 1, 2, 3, 4, 5, 6, 8, 7);
-        x = withGrades(9);
+        x = Sheets.withGrades(9);
         for (int a = 0; a < 9; a++) {
             for (int b = 0; b < 9; b++) {
                 x.cost(a, b, 1000);
@@ -114,7 +106,7 @@ final class GradesTest {
     }
 
     private static void tourFollowsChanges() {
-        BroadSheet x = withGrades(3);
+        BroadSheet x = Sheets.withGrades(3);
         tourIs("at first", x, 200, 0, 1, 2);
         x.cost(2, 1, 7);
         tourIs("a cost less", x, 107, 0, 2, 1);
@@ -132,7 +124,7 @@ final class GradesTest {
         Random random = new Random(5);
         for (int n = 0; n < 60; n++) {
             int grades = 2 + n % 6;
-            BroadSheet x = withGrades(grades);
+            BroadSheet x = Sheets.withGrades(grades);
             PlainSheet plain = new PlainSheet();
             for (int g = 0; g < grades; g++) {
                 plain.grade();
